@@ -830,7 +830,10 @@ public final class JobTests {
         }
 
         private boolean readInt() {
-            boolean minus = take('-');
+            boolean minus = nextSign() == '-';
+            if (minus) {
+                place++;
+            }
             boolean good = readDigits();
             if (minus) {
                 number = -number;
@@ -1034,7 +1037,7 @@ public final class JobTests {
 
         /** Counts one more for the span of a time; false, if that span is late. */
         boolean countInSpan(int key, int time, int span) {
-            int n = Math.max(1, span);
+            int n = span > 0 ? span : 1;
             int end = (time / n + 1) * n;
             if (end <= toldW) {
                 return false;
