@@ -191,8 +191,11 @@ public final class ModelTests {
 
     // ---- calls
 
-    /** A number below a bound, now and then one outside. */
+    /** A number below a bound, now and then one outside, near or far. */
     private int about(int bound) {
+        if (luck.nextInt(60) == 0) {
+            return luck.nextBoolean() ? Integer.MAX_VALUE : Integer.MIN_VALUE;
+        }
         return luck.nextInt(10) == 0 ? luck.nextInt(bound + 4) - 2 : luck.nextInt(Math.max(1, bound));
     }
 
