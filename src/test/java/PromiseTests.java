@@ -1,12 +1,5 @@
 /** Each promise of the document by itself, with answers worked out by hand. */
-public final class PromiseTests {
-    private static final int BAD = -1;
-    private static final int NO = -2;
-    private static final int NONE = -3;
-
-    private static int wrong = 0;
-    private static String promise = "";
-
+public final class PromiseTests extends Check {
     public static void main(String[] args) {
         newObject();
         type();
@@ -34,67 +27,11 @@ public final class PromiseTests {
         event();
         step();
         parsedAnew();
-        System.out.println(wrong == 0 ? "all promises hold" : wrong + " answers are not as due");
-        if (wrong != 0) {
-            System.exit(1);
-        }
-    }
-
-    private static void due(String call, int got, int want) {
-        if (got != want) {
-            wrong++;
-            System.out.println(promise + ": " + call + " answered " + got + ", due is " + want);
-        }
-    }
-
-    private static void dueList(String call, int[] got, int... want) {
-        for (int i = 0; i < want.length; i++) {
-            due(call + " " + i, got[i], want[i]);
-        }
-    }
-
-    private static void typeText(JobTests x, String text) {
-        for (int at = 0; at < text.length(); at += 8) {
-            int n = Math.min(8, text.length() - at);
-            long signs = 0;
-            for (int i = 0; i < n; i++) {
-                signs |= (long) text.charAt(at + i) << (8 * i);
-            }
-            due("type of " + text, x.type(signs, n), at + n);
-        }
-    }
-
-    private static int parsed(JobTests x, String text) {
-        typeText(x, text);
-        return x.parse();
-    }
-
-    private static JobTests with(String text) {
-        JobTests x = new JobTests();
-        int answer = parsed(x, text);
-        if (answer < 0) {
-            due("parse() of " + text, answer, 0);
-        }
-        return x;
-    }
-
-    private static void dueVerdict(String text, int want) {
-        due("run(0) of " + text, with(text).run(0), want);
-    }
-
-    private static void dueParse(String text, int want) {
-        due("parse() of '" + text + "'", parsed(new JobTests(), text), want);
-    }
-
-    /** The text cannot be read: the place is that of the sign behind the first ^, which is not typed. */
-    private static void dueNoParse(String textWithPlace) {
-        int place = textWithPlace.indexOf('^');
-        String text = textWithPlace.substring(0, place) + textWithPlace.substring(place + 1);
-        dueParse(text, -10 - place);
+        end();
     }
 
     private static void newObject() {
-        promise = "1 a new object";
+        sentence("1 a new object");
         JobTests x = new JobTests();
         for (int what = 0; what < 4; what++) {
             due("count " + what, x.count(what), 0);
@@ -110,7 +47,7 @@ public final class PromiseTests {
     }
 
     private static void type() {
-        promise = "2 type";
+        sentence("2 type");
         JobTests x = new JobTests();
         due("n 0", x.type(' ', 0), BAD);
         due("n 9", x.type(0x2020202020202020L, 9), BAD);
@@ -145,7 +82,7 @@ public final class PromiseTests {
     }
 
     private static void parse() {
-        promise = "3 parse";
+        sentence("3 parse");
         dueParse("J;", 0);
         dueParse("  J  ;  ", 0);
         dueParse("J;C:=;C:~;C:!;", 3);
@@ -241,7 +178,7 @@ public final class PromiseTests {
     }
 
     private static void count() {
-        promise = "4 count";
+        sentence("4 count");
         JobTests x = with("Jf<1m+2q3dsw4;C:=;Cra1 1:=;");
         typeText(x, "J;C");
         dueList("count", new int[] {x.count(0), x.count(1), x.count(2), x.count(3)}, 6, 2, 3, 16);
@@ -252,7 +189,7 @@ public final class PromiseTests {
     }
 
     private static void runVerdicts() {
-        promise = "5 run: verdicts";
+        sentence("5 run: verdicts");
         JobTests x = with("J;C:=;");
         due("run -1", x.run(-1), BAD);
         due("run 1", x.run(1), BAD);
@@ -284,7 +221,7 @@ public final class PromiseTests {
     }
 
     private static void runSteps() {
-        promise = "5 run: steps";
+        sentence("5 run: steps");
         dueVerdict("Jf<2;Cra1 1ra2 2ra3 3ra-5 4:a1 1a-5 4=;", 1);
         dueVerdict("Jf=2;Cra1 1ra2 2ra3 3:a2 2=;", 1);
         dueVerdict("Jf>2;Cra1 1ra2 2ra3 3:a3 3=;", 1);
@@ -308,7 +245,7 @@ public final class PromiseTests {
     }
 
     private static void runSpans() {
-        promise = "5 run: spans";
+        sentence("5 run: spans");
         dueVerdict("Jw5;Cra7 0rb9 4ra8 4ra1 5h10:a2 4b1 4a1 9=;", 1);
         dueVerdict("Jw1;Cra7 3:a1 3=;", 1);
         dueVerdict("Jw5;Crb1 7ra1 7rb1 1:b1 4a1 9b1 9=;", 1);
@@ -327,7 +264,7 @@ public final class PromiseTests {
     }
 
     private static void runTimers() {
-        promise = "5 run: timers";
+        sentence("5 run: timers");
         dueVerdict("Jt3;Cra7 1:a7 1a0 4=;", 1);
         dueVerdict("Jt3;Cra7 1h3kh4rb1 9:a7 1a0 4b1 9b0 12=;", 1);
         dueVerdict("Jt3;Crb1 1ra2 1rc1 0:b1 1a2 1c1 0c0 3a0 4b0 4=;", 1);
@@ -342,7 +279,7 @@ public final class PromiseTests {
     }
 
     private static void runWatermarks() {
-        promise = "5 run: watermarks";
+        sentence("5 run: watermarks");
         dueVerdict("Jw5;Cra1 1h9Rb1 1H3ra1 4H9:a2 4b1 4=;", 1);
         dueVerdict("Jw5;Cra1 1h9Rb1 1ra1 4:a2 4b1 4=;", 1);
         dueVerdict("Jw5;Ch9h4ra1 4:=;", 1);
@@ -359,7 +296,7 @@ public final class PromiseTests {
     }
 
     private static void runMarksAndFailures() {
-        promise = "5 run: marks and failures";
+        sentence("5 run: marks and failures");
         dueVerdict("J;Cra1 1kra1 2xra1 3:a1 1a1 2a1 3=;", 1);
         dueVerdict("J;Cra1 1xx:a1 1=;", 1);
         dueVerdict("Js;Cra1 1kra1 2xra1 3xk:a1 1a2 2a3 3=;", 1);
@@ -371,7 +308,7 @@ public final class PromiseTests {
     }
 
     private static void ran() {
-        promise = "6 ran";
+        sentence("6 ran");
         JobTests x = with("Jdm+1q6;Cra1 1ra2 2kra3 3ra-1 4ra9 9:=;Cra5 1:=;");
         dueList("ran 0", allOfRan(x, 0), 2, 0, 1, 2, 5);
         dueList("ran 1", allOfRan(x, 1), 1, 0, 0, NONE, 1);
@@ -390,12 +327,8 @@ public final class PromiseTests {
         due("many outs", most.ran(0, 0), 1 + 1 + 1 + 22 + 1 + 1);
     }
 
-    private static int[] allOfRan(JobTests x, int c) {
-        return new int[] {x.ran(c, 0), x.ran(c, 1), x.ran(c, 2), x.ran(c, 3), x.ran(c, 4)};
-    }
-
     private static void out() {
-        promise = "7 out";
+        sentence("7 out");
         JobTests x = with("Jm-9;Crd5 7Rb-3 999:=;C:a1 1=;");
         dueList("out 0", new int[] {x.out(0, 0, 0), x.out(0, 0, 1), x.out(0, 0, 2)}, 3, -4, 7);
         dueList("out 1", new int[] {x.out(0, 1, 0), x.out(0, 1, 1), x.out(0, 1, 2)}, 1, -12, 999);
@@ -420,7 +353,7 @@ public final class PromiseTests {
     }
 
     private static void difference() {
-        promise = "8 difference";
+        sentence("8 difference");
         dueDifference("J;C:=;", NONE);
         dueDifference("J;Cra1 1:a1 1=;", NONE);
         dueDifference("J;Cra1 1:b1 1=;", 0);
@@ -442,12 +375,8 @@ public final class PromiseTests {
         due("c -1", x.difference(-1), BAD);
     }
 
-    private static int[] allSchedules(JobTests x, int c) {
-        return new int[] {x.schedules(c, 0), x.schedules(c, 1), x.schedules(c, 2), x.schedules(c, 3)};
-    }
-
     private static void schedules() {
-        promise = "9 schedules";
+        sentence("9 schedules");
         JobTests x = with("J;C:=;Ckx:=;Cra1 1kh1x:=;CRa1 1H1:=;Cra1 1Ra1 1:=;Ch1h2H1h3H2:=;Ch1H1h1:=;C"
             + "h1H1".repeat(12) + ":=;");
         dueList("nothing", allSchedules(x, 0), 1, 1, 1, 1);
@@ -465,7 +394,7 @@ public final class PromiseTests {
     }
 
     private static void schedule() {
-        promise = "10 schedule";
+        sentence("10 schedule");
         JobTests x = with("J;Ch1kh2H1xh3H2:=;Ch1H1h2H2:=;C:=;Ch1h2:=;CH1H2H3:=;C" + "h1H1".repeat(12) + ":=;");
         int[] threeAndTwo = {24, 3, 6, 12, 17, 18, 20, 5, 9};
         for (int k = 0; k < 9; k++) {
@@ -495,7 +424,7 @@ public final class PromiseTests {
     }
 
     private static void equal() {
-        promise = "11 equal";
+        sentence("11 equal");
         JobTests x = with("Js;Cra1 1Ra2 2:=;Ckx:=;CRa1 1Rb1 1:=;Cra1 1Ra1 1:=;");
         due("as it stands", x.equal(0, 2), 1);
         due("the other one", x.equal(0, 1), 0);
@@ -523,7 +452,7 @@ public final class PromiseTests {
     }
 
     private static void failing() {
-        promise = "12 failing";
+        sentence("12 failing");
         JobTests x = with("Js;Cra1 1Ra2 2:=;Cra1 1Ra2 2ra4 3Ra8 4:=;Cra1 1ra2 2:=;");
         due("two", x.failing(0, 1, 0), 1);
         due("no more", x.failing(0, 1, 1), NONE);
@@ -549,7 +478,7 @@ public final class PromiseTests {
     }
 
     private static void shuffle() {
-        promise = "13 shuffle";
+        sentence("13 shuffle");
         JobTests x = with("J;Ch1H1kh2H2xh3h4h5:=;Ch1h2:=;CH1H2H3:=;C:=;Ch1H1:=;");
         int[] due = {40, 5, 96, 3, 6, 3, 20, 5, 24, 3};
         for (int i = 0; i < due.length; i++) {
@@ -577,7 +506,7 @@ public final class PromiseTests {
     }
 
     private static void shrinkAndLeft() {
-        promise = "14, 15 shrink and left";
+        sentence("14, 15 shrink and left");
         dueLeft("J;Cra1 1rb1 1:=;", 1);
         dueLeft("J;Cra1 1rb1 1:b1 1=;");
         dueLeft("J;C:a1 1=;");
@@ -603,12 +532,8 @@ public final class PromiseTests {
         due("its outs stay", x.ran(0, 0), 2);
     }
 
-    private static int[] allOfCover(JobTests x, int step) {
-        return new int[] {x.cover(step, 0), x.cover(step, 1), x.cover(step, 2), x.cover(step, 3), x.cover(step, 4)};
-    }
-
     private static void cover() {
-        promise = "16 cover";
+        sentence("16 cover");
         JobTests x = with("Jf>1m*2s w5 t3;Cra2 1Ra3 2h4krb9 6H9xh20ra5 3:=;Cra1 1:~;");
         x.run(0);
         x.shrink(0);
@@ -643,7 +568,7 @@ public final class PromiseTests {
     }
 
     private static void mutant() {
-        promise = "17 mutant";
+        sentence("17 mutant");
         JobTests x = with("Jf=5m*2q7dst4;");
         int[] steps = {0, 0, 0, 0, 0, 1, 1, 1, 1, 1, 2, 2, 3, 4, 5, 5};
         int[] ways = {0, 1, 2, 3, 4, 0, 1, 2, 3, 4, 0, 1, 0, 0, 0, 1};
@@ -690,7 +615,7 @@ public final class PromiseTests {
     }
 
     private static void alone() {
-        promise = "18 alone";
+        sentence("18 alone");
         JobTests x = with("Jf>1;Cra5 1:a5 2=;Cra5 1:a5 1=;Cra1 1ra2 2:a2 2=;");
         due("a case that fails", x.alone(0), 0);
         due("a case that kills with another", x.alone(1), 0);
@@ -701,12 +626,8 @@ public final class PromiseTests {
         due("both", with("Js;Cra1 1ra1 1:a1 1a2 1=;Cra1 1ra1 1:a1 1a2 1=;").alone(0), 0);
     }
 
-    private static int[] allOfEvent(JobTests x, int c, int i) {
-        return new int[] {x.event(c, i, 0), x.event(c, i, 1), x.event(c, i, 2), x.event(c, i, 3)};
-    }
-
     private static void event() {
-        promise = "19 event";
+        sentence("19 event");
         JobTests x = with("J;C:=;Cra-12 3Rd999 0h7H008kxrb-0 9:=;");
         dueList("r", allOfEvent(x, 1, 0), 'r', 0, -12, 3);
         dueList("R", allOfEvent(x, 1, 1), 'R', 3, 999, 0);
@@ -725,12 +646,8 @@ public final class PromiseTests {
         dueList("a fourth digit stands for itself", allOfEvent(with("J;Crc-1234:=;"), 0, 0), 'r', 2, -123, 4);
     }
 
-    private static int[] allOfStep(JobTests x, int k) {
-        return new int[] {x.step(k, 0), x.step(k, 1), x.step(k, 2)};
-    }
-
     private static void step() {
-        promise = "20 step";
+        sentence("20 step");
         JobTests x = with("Jf<-12m/3q-4dsw007;");
         dueList("f", allOfStep(x, 0), 'f', -12, '<');
         dueList("m", allOfStep(x, 1), 'm', 3, '/');
@@ -753,7 +670,7 @@ public final class PromiseTests {
 
     /** Nothing that was found out about one text may stay for the next one. */
     private static void parsedAnew() {
-        promise = "3 parse, anew";
+        sentence("3 parse, anew");
         JobTests x = with("Js;Cra1 1Ra2 2:=;");
         askSome(x, 0, 1, 1, 2, 0);
         due("another text", parsed(x, "Jm*0;Cra1 1Ra2 2ra3 3:a0 1a0 2a0 3=;"), 1);
