@@ -115,6 +115,34 @@ abstract class Check {
         }
     }
 
+    /** Most of what can be asked, of few steps and cases in less than half of the calls of an object. */
+    static String stateOf(JobTests x) {
+        StringBuilder all = new StringBuilder("counts");
+        tell(all, all(4, x::count));
+        for (int k = 0; k < x.count(0); k++) {
+            tell(all.append("; step"), allOfStep(x, k));
+            tell(all.append(" cover"), allOfCover(x, k));
+        }
+        for (int k = 0; k < x.count(3); k += 3) {
+            tell(all.append("; mutant"), allOfMutant(x, k));
+        }
+        for (int c = 0; c < x.count(1); c++) {
+            int test = c;
+            tell(all.append("; case"), x.run(c), x.difference(c), x.shrink(c), x.left(c, 0), x.alone(c));
+            tell(all.append(" ran"), allOfRan(x, c));
+            all.append(" outs ").append(outsOf(x, c));
+            tell(all.append(" schedules"), x.schedules(c, 3), x.schedule(c, 3, 0), x.failing(c, 3, 0), x.shuffle(c, 5));
+            tell(all.append(" events"), all(4, i -> x.event(test, i, 0)));
+        }
+        return all.toString();
+    }
+
+    static void tell(StringBuilder all, int... numbers) {
+        for (int number : numbers) {
+            all.append(' ').append(number);
+        }
+    }
+
     static int[] allOfRan(JobTests x, int c) {
         return all(5, what -> x.ran(c, what));
     }

@@ -217,7 +217,8 @@ public final class MutantEdgeTests extends Check {
         dueKills("dd", "ra1 1ra1 1:a1 1=", "--");
         dueKills("dddddd", "ra1 1ra1 1:a1 1=", "------");
         JobTests x = with("Jf<1m+1q1dst1;");
-        dueList("which are left out", all(x.count(3), k -> x.mutant(k, 2)), 0, 0, 0, 0, 1, 0, 0, 0, 0, 1, 0, 1, 1, 1, 0, 1);
+        int[] leftOut = {0, 0, 0, 0, 1, 0, 0, 0, 0, 1, 0, 1, 1, 1, 0, 1};
+        dueList("which are left out", all(x.count(3), k -> x.mutant(k, 2)), leftOut);
     }
 
     private static void mutantsOfSpansAndTimers() {

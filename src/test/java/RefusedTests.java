@@ -28,34 +28,6 @@ public final class RefusedTests extends Check {
         return x;
     }
 
-    /** Most of what can be asked, in fewer calls than half of those that an object may be used for. */
-    private static String stateOf(JobTests x) {
-        StringBuilder all = new StringBuilder("counts");
-        tell(all, all(4, x::count));
-        for (int k = 0; k < x.count(0); k++) {
-            tell(all.append("; step"), allOfStep(x, k));
-            tell(all.append(" cover"), allOfCover(x, k));
-        }
-        for (int k = 0; k < x.count(3); k += 3) {
-            tell(all.append("; mutant"), allOfMutant(x, k));
-        }
-        for (int c = 0; c < x.count(1); c++) {
-            int test = c;
-            tell(all.append("; case"), x.run(c), x.difference(c), x.shrink(c), x.left(c, 0), x.alone(c));
-            tell(all.append(" ran"), allOfRan(x, c));
-            all.append(" outs ").append(outsOf(x, c));
-            tell(all.append(" schedules"), x.schedules(c, 3), x.schedule(c, 3, 0), x.failing(c, 3, 0), x.shuffle(c, 5));
-            tell(all.append(" events"), all(4, i -> x.event(test, i, 0)));
-        }
-        return all.toString();
-    }
-
-    private static void tell(StringBuilder all, int... numbers) {
-        for (int number : numbers) {
-            all.append(' ').append(number);
-        }
-    }
-
     /** The call answers so on an object that has answered nothing yet, and on one that has; both stay as they were. */
     private static void dueStays(String call, ToIntFunction<JobTests> ask, int want) {
         JobTests x = begun();
@@ -70,8 +42,9 @@ public final class RefusedTests extends Check {
 
     private static void state() {
         sentence("the state itself");
-        dueText("state", stateOf(begun()), "counts 3 2 6 8; step 102 9 60 cover 5 4 0 0 0; step 115 0 0 cover 4 4 0 0 0;"
-            + " step 116 3 0 cover 4 6 2 0 0; mutant 0 0 0 0 1; mutant 0 3 0 -3 0; mutant 2 0 0 0 1;"
+        dueText("state", stateOf(begun()), "counts 3 2 6 8;"
+            + " step 102 9 60 cover 5 4 0 0 0; step 115 0 0 cover 4 4 0 0 0; step 116 3 0 cover 4 6 2 0 0;"
+            + " mutant 0 0 0 0 1; mutant 0 3 0 -3 0; mutant 2 0 0 0 1;"
             + " case 1 -3 -2 -2 5 ran 3 0 0 -3 3 outs a1 1, a3 2, a0 5 schedules 3 4 1 1 events 114 82 104 -1;"
             + " case 0 0 1 1 0 ran 2 0 0 -3 5 outs b1 1, b0 4 schedules 1 0 -3 0 events 107 114 120 114");
     }

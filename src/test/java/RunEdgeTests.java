@@ -395,6 +395,8 @@ public final class RunEdgeTests extends Check {
         dueOuts("w5", "ra1 1h5h6h9", "a1 4");
         dueOuts("w5", "ra1 1ra1 6h5h6h10", "a1 4, a1 9");
         dueOuts("w5", "ra1 1rb1 6rc1 11h5rb1 6rc1 11h10", "a1 4, b2 9, c2 14");
+        dueOuts("w5", "ra1 1ra1 6ra1 7h5h10", "a1 4, a2 9");
+        dueOuts("w5", "ra1 1ra1 2ra1 3rb1 1ra1 6rb1 7rb1 8h5h10", "a3 4, b1 4, a1 9, b2 9");
     }
 
     private static void timersUpToW() {
@@ -449,8 +451,8 @@ public final class RunEdgeTests extends Check {
 
     private static void heldUntilMark() {
         sentence("2 OUTS are HELD, and given out at a MARK and at the end");
-        JobTests x = with("Jq6;Cra1 1ra0 2:=;Cra1 1kra0 2:=;Cra1 1kra2 2ra0 3:=;Cra1 1ra2 2kra0 3:=;Cra1 1kra2 2kra0 3:=;"
-            + "Ckra1 1ra0 2:=;Cra1 1kkra0 2:=;Cra1 1ra2 2:=;");
+        JobTests x = with("Jq6;Cra1 1ra0 2:=;Cra1 1kra0 2:=;Cra1 1kra2 2ra0 3:=;Cra1 1ra2 2kra0 3:=;"
+            + "Cra1 1kra2 2kra0 3:=;Ckra1 1ra0 2:=;Cra1 1kkra0 2:=;Cra1 1ra2 2:=;");
         String[] outs = {"", "a6 1", "a6 1", "a6 1, a3 2", "a6 1, a3 2", "", "a6 1", "a6 1, a3 2"};
         for (int c = 0; c < outs.length; c++) {
             dueText("given out by case " + c, outsOf(x, c), outs[c]);
@@ -466,6 +468,10 @@ public final class RunEdgeTests extends Check {
         dueOuts("s", "ra1 1krb1 1kra1 2rb1 2x", "a1 1, b1 1, a2 2, b2 2");
         dueOuts("w5", "ra1 1kra1 2xra1 3", "a3 4");
         dueOuts("w5", "ra1 1kh5x", "a1 4");
+        dueOuts("w5", "ra1 6kra1 1x", "a1 4, a1 9");
+        dueOuts("w5", "ra1 6ra1 7rb1 11kra1 1rb1 1x", "a1 4, b1 4, a2 9, b1 14");
+        dueOuts("w5", "ra1 1rb1 6rb1 7kh5x", "a1 4, b2 9");
+        dueOuts("w5w5", "ra1 6kra1 1h5xra1 8h10", "a1 4, a1 9");
         dueOuts("w5", "ra1 1h5kra1 6x", "a1 4, a1 9");
         dueOuts("t3", "ra5 1kh4x", "a5 1, a0 4");
         dueOuts("t3", "ra5 1kra6 2xh4rb1 1", "a5 1, a6 2, b1 1, b0 4, a0 5");
@@ -578,8 +584,8 @@ public final class RunEdgeTests extends Check {
 
     private static void verdictsOfExpectedZero() {
         sentence("3 With !: 1, if it finds ZERO, and OUTS given out are those told in this order; else 0");
-        JobTests x = with("Jq6;C:!;Cra1 1:a6 1!;Cra0 1:!;Cra0 1:a6 1!;Cra1 1ra0 1:!;Cra1 1ra0 1:a6 1!;Cra1 1kra0 1:a6 1!;"
-            + "Cra1 1kra0 1:!;");
+        JobTests x = with("Jq6;C:!;Cra1 1:a6 1!;Cra0 1:!;Cra0 1:a6 1!;Cra1 1ra0 1:!;Cra1 1ra0 1:a6 1!;"
+            + "Cra1 1kra0 1:a6 1!;Cra1 1kra0 1:!;");
         dueList("verdicts", all(8, x::run), 0, 0, 1, 0, 1, 0, 1, 0);
         JobTests order = with("Jq6;Cra1 1ra2 2kra0 1:a6 1a3 2!;Cra1 1ra2 2kra0 1:a3 2a6 1!;");
         dueList("in this order", all(2, order::run), 1, 0);
@@ -693,7 +699,8 @@ public final class RunEdgeTests extends Check {
         dueBadCase("difference", 8, x::difference);
         JobTests three = with("J;Cra1 1rb2 2:a1 1=;C:=;");
         dueBadCase("difference", 2, three::difference);
-        JobTests zero = with("Jq6;Cra1 1ra2 2kra0 3:a6 1a3 2!;Cra1 1ra2 2kra0 3:a3 2a6 1!;Cra1 1kra0 3:a6 1=;Cra0 3:=;");
+        JobTests zero = with("Jq6;Cra1 1ra2 2kra0 3:a6 1a3 2!;Cra1 1ra2 2kra0 3:a3 2a6 1!;Cra1 1kra0 3:a6 1=;"
+            + "Cra0 3:=;");
         dueList("of !, and of ZERO", all(4, zero::difference), NONE, 0, NONE, NONE);
         String outs = "a1 1a1 2a1 3a1 4a1 5a1 6a1 7a1 8a1 9a2 1a2 2a2 3a2 4a2 5a2 6";
         JobTests last = with("J;Cr" + outs.replace("a", "ra").substring(1) + "ra9 9:" + outs + "a9 8=;");

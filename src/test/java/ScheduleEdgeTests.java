@@ -18,6 +18,7 @@ public final class ScheduleEdgeTests extends Check {
         howMany();
         howManyOfAll();
         howManyOfWrongSwitches();
+        schedulesOfEachCase();
         schedulePlaces();
         scheduleFull();
         scheduleRefused();
@@ -141,6 +142,12 @@ public final class ScheduleEdgeTests extends Check {
         due("the other one alone", x.equal(1, 3), 0);
         due("both find it, at other events", x.equal(2, 1), 1);
         due("none finds it", x.equal(3, 1), 1);
+        // nothing comes of these, whether they find it or not
+        JobTests nothing = with("Jsq6f=99;Cra1 1Ra-1 2Ra5 3:=;Cra5 1Ra1 2Ra-1 3:=;");
+        due("the plain one alone, without outs", nothing.equal(0, 3), 0);
+        due("both, without outs", nothing.equal(0, 5), 1);
+        due("the other one alone, without outs", nothing.equal(1, 3), 0);
+        due("none, without outs", nothing.equal(1, 6), 1);
     }
 
     private static void equalOuts() {
@@ -208,6 +215,21 @@ public final class ScheduleEdgeTests extends Check {
         for (int s = 0; s < 4; s++) {
             int most = s;
             dueBadCase("schedules", 2, c -> x.schedules(c, most));
+        }
+    }
+
+    private static void schedulesOfEachCase() {
+        sentence("9, 10 SCHEDULES of a CASE (of each by itself)");
+        JobTests x = with("J;" + events(2, 2) + events(3, 2) + events(2, 3) + events(3, 3) + events(2, 0) + "C:=;");
+        int[] howMany = {6, 9, 9, 14, 1, 1};
+        int[] last = {5, 9, 11, 19, 0, 0};
+        for (int c = 0; c < 6; c++) {
+            for (int d = 0; d < 6; d++) {
+                dueList("cases " + c + " and " + d, new int[] {x.schedules(c, 3), x.schedules(d, 3)}, howMany[c],
+                    howMany[d]);
+                dueList("the last of " + c + " and " + d, new int[] {x.schedule(c, 3, howMany[c] - 1),
+                    x.schedule(d, 3, howMany[d] - 1)}, last[c], last[d]);
+            }
         }
     }
 

@@ -1,4 +1,5 @@
 import java.util.List;
+import java.util.function.IntSupplier;
 
 /** Edges that the document names for THE TEXT and its grammar (======== 1), and in promises 1 to 4, 19 and 20. */
 public final class TextEdgeTests extends Check {
@@ -38,6 +39,8 @@ public final class TextEdgeTests extends Check {
         naturalZero();
         textIsEmptyThen();
         jobAndCasesStay();
+        nothingOfAnEarlierText();
+        sameQuestionOfTheNextText();
         counts();
         events();
         lastEvent();
@@ -103,8 +106,8 @@ public final class TextEdgeTests extends Check {
         for (int sign = 0; sign < 256; sign++) {
             boolean good = sign >= 32 && sign <= 126;
             due("type of sign " + sign, new JobTests().type(sign, 1), good ? 1 : BAD);
-            due("type of sign " + sign + " as the eighth", new JobTests().type((long) sign << 56 | 0x41414141414141L, 8),
-                good ? 8 : BAD);
+            long eight = (long) sign << 56 | 0x41414141414141L;
+            due("type of sign " + sign + " as the eighth", new JobTests().type(eight, 8), good ? 8 : BAD);
         }
         for (int place = 0; place < 8; place++) {
             long hole = 0x4141414141414141L & ~(0xffL << (8 * place));
@@ -418,6 +421,13 @@ public final class TextEdgeTests extends Check {
             due("R at " + number, with("J;CRa1 " + number + ":=;").event(0, 0, 3), time);
             due("told at " + number, with("J;Cra1 " + number + ":a1 " + number + "=;").run(0), 1);
         }
+        dueNoParse("J;Ch^:=;");
+        dueNoParse("J;CH^k:=;");
+        dueNoParse("J;Cra1^:=;");
+        dueNoParse("J;CRa1 ^x:=;");
+        dueNoParse("J;C:a1^=;");
+        dueNoParse("J;C:a1 ^~;");
+        dueNoParse("J;C:a1 ^!;");
         for (String ahead : new String[] {"J;Ch", "J;CH", "J;Cra1 ", "J;CRa1 ", "J;C:a1 "}) {
             dueNoParse(ahead + "^");
             dueNoParse(ahead + "^-1:=;");
@@ -548,6 +558,54 @@ public final class TextEdgeTests extends Check {
         due("a wrong text first", parsed(fresh, "Jd;C:=;C"), -18);
         dueList("the job without steps stays", all(4, fresh::count), 0, 0, 0, 0);
         due("no case came of it", fresh.run(0), BAD);
+    }
+
+    private static void nothingOfAnEarlierText() {
+        sentence("1 PARSED it is a JOB and its CASES (and nothing of an earlier one)");
+        String[] good = {"J;", "Jsf<9;Cra1 1Ra2 2ra3 3:a1 1a3 2a6 3=;Cra1 1:~;", "Jt2;CRb1 1:b1 1b0 3=;", "Jd;C:=;C:!;",
+            "Jw5q6;Cra1 1kra1 9xra1 20h30:a6 4~;"};
+        String[] between = {"J", "Jddddd;C", "Jd;Ckkkk:a1 1b2 2c3 3~;?", "Jd;C:=;C:=;Chh", "J;", "Js;Cra0 1:a0 1=;",
+            "Jm*0;Cra1 1Ra2 2ra3 3kk:a0 1a0 2a0 3a4 4=;C:a1 1a2 2=;C:=;"};
+        for (String first : good) {
+            for (String second : between) {
+                for (String third : good) {
+                    JobTests x = with(first);
+                    stateOf(x);
+                    parsed(x, second);
+                    parsed(x, third);
+                    dueText("state of " + third + " behind " + second + " behind " + first, stateOf(x),
+                        stateOf(with(third)));
+                }
+            }
+        }
+    }
+
+    private static void sameQuestionOfTheNextText() {
+        sentence("3 THE TEXT is PARSED (what was asked last is asked again)");
+        JobTests x = with("Js;Cra1 1Ra2 2:=;");
+        dueSame("run", x, 0, 1, () -> x.run(0));
+        dueSame("ran", x, 2, 0, () -> x.ran(0, 0));
+        dueSame("out", x, 1, 0, () -> x.out(0, 0, 1));
+        dueSame("difference", x, 0, NONE, () -> x.difference(0));
+        dueSame("schedules", x, 2, 1, () -> x.schedules(0, 3));
+        dueSame("schedule", x, 2, 0, () -> x.schedule(0, 3, 0));
+        dueSame("equal", x, 0, BAD, () -> x.equal(0, 1));
+        dueSame("failing", x, 1, NONE, () -> x.failing(0, 3, 0));
+        dueSame("shrink", x, 1, NO, () -> x.shrink(0));
+        dueSame("left", x, 1, NO, () -> x.left(0, 0));
+        dueSame("cover", x, 2, 0, () -> x.cover(0, 0));
+        dueSame("mutant", x, 1, 0, () -> x.mutant(0, 2));
+        dueSame("event", x, 'r', 'k', () -> x.event(0, 0, 0));
+        dueSame("step", x, 's', 'q', () -> x.step(0, 0));
+    }
+
+    /** The same call of one text and right behind it of another one, and of the first one again. */
+    private static void dueSame(String call, JobTests x, int first, int other, IntSupplier ask) {
+        due(call, ask.getAsInt(), first);
+        due("another text", parsed(x, "Jq1;Ck:=;"), 1);
+        due(call + " of another text", ask.getAsInt(), other);
+        due("the first text", parsed(x, "Js;Cra1 1Ra2 2:=;"), 1);
+        due(call + " of the first text again", ask.getAsInt(), first);
     }
 
     private static void counts() {
